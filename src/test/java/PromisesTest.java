@@ -622,6 +622,12 @@ public final class PromisesTest {
         due("ladder(18, 2)", high.ladder(18, 2), 972);
         high.set(3, 99);
         due("ladder(18, 2), to 999", high.ladder(18, 2), 972);
+        RopeLadder thousand = with("999;999;999;999;499");
+        due("high(25)", thousand.high(25), 1000);
+        due("ladder(25, 1), no FOOT of 1000", thousand.ladder(25, 1), 0);
+        due("ladder(24, 2)", thousand.ladder(24, 2), 960);
+        thousand.set(3, 99);
+        due("ladder(24, 2), no FOOT of 1000", thousand.ladder(24, 2), 960);
         due("ladder, no SWELLS", new RopeLadder().ladder(0, 10), 0);
         for (int many : new int[] {0, -1, 101, FAR[0], FAR[1]}) {
             due("ladder(0, " + many + ")", x.ladder(0, many), -2);
