@@ -16,7 +16,8 @@ public final class RopeLadder {
     private static final int MOST_SEEN = 8, MOST_SEEN_HEIGHT = 3000, MOST_CLIMBERS = 20;
     private static final int SHEETS = 4, MOST_ITEMS = 48, BYTES = 0, SHORTS = 1, INTS = 2;
     private static final int FOUND_NULL = 1, FOUND_INDEX = 2, FOUND_CAST = 3, FOUND_STORE = 4, FOUND_SIZE = 5;
-    private static final int NOTHING = Integer.MIN_VALUE;
+    private static final int LEAST_INT = 1 << 31, NO_LIMIT = 2147483647;
+    private static final long LEAST_LONG = 1L << 63;
     private static final int[] DIGEST_TENTHS = {0, 1, 37, 200, 399};
 
     private final Text swellsText;
@@ -170,7 +171,7 @@ public final class RopeLadder {
         if (from == NONE || what == 0) {
             return from;
         }
-        return sea.spread(from, many, Integer.MAX_VALUE);
+        return sea.spread(from, many, NO_LIMIT);
     }
 
     // ---- steps, climbs
@@ -201,7 +202,7 @@ public final class RopeLadder {
 
     public long safe(int tenth, int what) {
         if (!isTenth(tenth) || !isEither(what)) {
-            return Long.MIN_VALUE - BAD;
+            return LEAST_LONG - BAD;
         }
         long above = chance(tenth);
         long below = WHOLE;
@@ -388,12 +389,12 @@ public final class RopeLadder {
     public int get(int s, int form, int i) {
         Sheet sheet = sheetOf(s);
         if (sheet == null || !isForm(form)) {
-            return NOTHING;
+            return LEAST_INT;
         }
         int trouble = sheet.troubleAt(form, i);
         if (trouble != 0) {
             find(trouble);
-            return NOTHING;
+            return LEAST_INT;
         }
         return sheet.itemAt(i);
     }
@@ -831,7 +832,7 @@ public final class RopeLadder {
 
         int lullFrom(int from, int many) {
             int lull = NONE;
-            int least = Integer.MAX_VALUE;
+            int least = NO_LIMIT;
             for (int tenth = from; tenth + many <= TENTHS; tenth++) {
                 int spread = spread(tenth, many, least);
                 if (spread < least) {
@@ -855,7 +856,7 @@ public final class RopeLadder {
         }
 
         int greatestHeight() {
-            return greatestHeightUpTo(Integer.MAX_VALUE, 0, TENTHS);
+            return greatestHeightUpTo(NO_LIMIT, 0, TENTHS);
         }
 
         /** The greatest height that is not above a limit; 0: all are. */
@@ -887,7 +888,7 @@ public final class RopeLadder {
             for (int tenth = leeFrom; tenth < end; tenth++) {
                 greatest = Math.max(greatest, heightWithoutLee(tenth));
             }
-            return greatest - greatestHeightUpTo(Integer.MAX_VALUE, leeFrom, end);
+            return greatest - greatestHeightUpTo(NO_LIMIT, leeFrom, end);
         }
     }
 

@@ -2,20 +2,32 @@
 final class Due {
     private static int asked = 0;
     private static int wrong = 0;
+    private static String test = "";
+    private static int askedAhead = 0;
 
     private Due() {
+    }
+
+    /** What is asked from now on belongs to a test of this name. */
+    static void begin(String name) {
+        test = name + ": ";
+        askedAhead = asked;
+    }
+
+    static boolean hasAsked() {
+        return asked > askedAhead;
     }
 
     static void due(String call, long got, long want) {
         asked++;
         if (got != want) {
             wrong++;
-            System.out.println(call + " answered " + got + ", due is " + want);
+            System.out.println(test + call + " answered " + got + ", due is " + want);
         }
     }
 
-    static void end(String test) {
-        System.out.println(test + ": " + asked + " answers, " + wrong + " not as due");
+    static void end(String tests) {
+        System.out.println(tests + ": " + asked + " answers, " + wrong + " not as due");
         if (wrong != 0 || asked == 0) {
             System.exit(1);
         }

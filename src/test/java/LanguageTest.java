@@ -10,7 +10,8 @@ public final class LanguageTest {
     private static final String[] FORBIDDEN = {
         "\\b(throw|throws|try|catch|synchronized|assert|import|package|instanceof|volatile|native)\\b",
         "->", "::", "\"", "Exact\\(", "\\b(equals|hashCode|toString)\\b", "System\\.(?!arraycopy)",
-        "\\b(Random|Thread|Object|Exception)\\b", "static\\s*\\{"};
+        "\\b(Random|Thread|Object|Exception)\\b", "static\\s*\\{",
+        "\\b(Integer|Long|Math)\\.[A-Z]"};
     private static final int MOST_LINES = 60, MOST_PARAMETERS = 7;
 
     private LanguageTest() {

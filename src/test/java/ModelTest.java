@@ -3,12 +3,15 @@ import java.util.Random;
 /** Runs of calls by chance (the same ones each time), on the class and on the Model. */
 public final class ModelTest {
     private static final int RUNS = 1500, CALLS = 120;
+    // Behind an object's 512th call nothing is due; one step of a run makes some thirty calls at most.
+    private static final int LAST_STEP_AT = 475;
     private static final int[] FAR = {Integer.MIN_VALUE, Integer.MAX_VALUE, -1000, 1000, -3, 400, 256};
 
     private final Random random;
     private final RopeLadder x = new RopeLadder();
     private final Model model = new Model();
     private final int run;
+    private int asked = 0;
 
     private ModelTest(int run) {
         this.run = run;
@@ -19,7 +22,7 @@ public final class ModelTest {
         for (int run = 1; run <= RUNS; run++) {
             ModelTest test = new ModelTest(run);
             test.prepare();
-            for (int i = 0; i < CALLS; i++) {
+            for (int i = 0; i < CALLS && test.asked < LAST_STEP_AT; i++) {
                 test.callOne(test.random.nextInt(60));
             }
             test.askDigest();
@@ -28,6 +31,7 @@ public final class ModelTest {
     }
 
     private void due(String call, long got, long want) {
+        asked++;
         Due.due("run " + run + ": " + call, got, want);
     }
 
@@ -160,6 +164,7 @@ public final class ModelTest {
         int t = in(0, 399);
         if (kind == 40 || kind == 41) {
             int high = random.nextInt(5) == 0 ? in(0, 3000) : x.high(t);
+            asked++;
             due("seen(" + t + ", " + high + ")", x.seen(t, high), model.seen(t, high));
         } else if (kind == 42 && random.nextInt(3) == 0) {
             due("forget()", x.forget(), model.forget());
