@@ -48,8 +48,11 @@ public final class FaceTest {
 
     private static void methods(Class<?> face) {
         Set<String> due = new TreeSet<>(Set.of(METHODS));
+        Set<String> names = publicNames(face);
         for (Method method : face.getDeclaredMethods()) {
-            if (!Modifier.isPrivate(method.getModifiers())) {
+            if (Modifier.isPrivate(method.getModifiers())) {
+                isSo("a name of its own: " + method, !names.contains(method.getName()));
+            } else {
                 isSo(signature(method), Modifier.isPublic(method.getModifiers()) && due.remove(signature(method)));
                 isSo(signature(method) + ", of an object", !Modifier.isStatic(method.getModifiers()));
             }
@@ -75,18 +78,41 @@ public final class FaceTest {
         }
     }
 
-    private static void classesInside(Class<?> face) {
+    private static Set<String> publicNames(Class<?> face) {
         Set<String> names = new TreeSet<>();
         for (Method method : face.getMethods()) {
             names.add(method.getName());
         }
+        return names;
+    }
+
+    private static void classesInside(Class<?> face) {
+        Set<String> names = publicNames(face);
         Due.due("at most twelve classes", Math.max(12, 1 + face.getDeclaredClasses().length), 12);
+        state(face);
         for (Class<?> inside : face.getDeclaredClasses()) {
             int kind = inside.getModifiers();
             isSo("static " + inside, Modifier.isStatic(kind) && !Modifier.isPublic(kind) && !Modifier.isProtected(kind));
+            state(inside);
             for (Executable method : inside.getDeclaredMethods()) {
                 isSo("a name of its own: " + method, !names.contains(method.getName()));
             }
         }
+    }
+
+    /** Rules 5 and 11: what is static is a constant or a row of them; of the rest there are some twenty at most. */
+    private static void state(Class<?> part) {
+        Set<Class<?>> constants = Set.of(int.class, long.class, boolean.class, char.class, String.class,
+            int[].class, long[].class, char[].class, byte[].class);
+        int fields = 0;
+        for (Field field : part.getDeclaredFields()) {
+            int kind = field.getModifiers();
+            if (Modifier.isStatic(kind)) {
+                isSo("a constant: " + field, Modifier.isFinal(kind) && constants.contains(field.getType()));
+            } else {
+                fields++;
+            }
+        }
+        Due.due("at most twenty fields in " + part, Math.max(20, fields), 20);
     }
 }

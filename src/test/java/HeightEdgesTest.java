@@ -244,6 +244,15 @@ public final class HeightEdgesTest {
         Asked.with("410").lee(0, 70).due("seventh(0)", 1).due("seventh(5)", 1).due("seventh(6)", 7);
     }
 
+    /** Those behind the highest are lower, higher than one another, or like it: it stays the highest. */
+    static void lowerCrestsBehindTheHighest() {
+        Asked.with("410").lee(10, 389).due("high(5)", 20).due("high(15)", 10).due("seventh(0)", 1);
+        Asked.with("410").lee(30, 30).due("seventh(0)", 1).due("seventh(26)", 4);
+        // It tops in 10, 30, 50 .. and stands 50 40 50 50 40 50 50 40 there.
+        Asked.with("420;130").dueFrom(1, "crest(10, #)", 10, 30, 50, 70, 90).due("high(30)", 40).due("high(50)", 50)
+            .due("seventh(0)", 1).due("seventh(11)", 2).due("seventh(31)", 1).due("seventh(71)", 2);
+    }
+
     /** "Fewer, if there are no more." */
     static void fewerThanSeven() {
         Asked.with("410").lee(330, 60).due("seventh(335)", 7).due("seventh(336)", 6).due("seventh(376)", 2)
