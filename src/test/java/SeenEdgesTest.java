@@ -329,6 +329,14 @@ public final class SeenEdgesTest {
         twoBangs(0, 16).due("night(2, 1)", 0).due("night(2, 20)", 0);
     }
 
+    /** One BANG: by SEED 2 its lot of 16 is 15 (43007 of 65536), by SEED 37 it is 0 (14640). */
+    static void theLeastAndTheGreatestLotForABang() {
+        twoBangs(0, 15).having(1, 1).due("bangs(6)", 1).due("night(2, 1)", 1).due("night(37, 1)", 0);
+        twoBangs(0, 16).having(1, 1).due("night(2, 1)", 0).due("night(37, 1)", 0);
+        twoBangs(0, 1).having(1, 1).due("night(2, 1)", 1).due("night(37, 1)", 0);
+        twoBangs(0, 0).having(1, 1).due("night(2, 1)", 1).due("night(37, 1)", 1);
+    }
+
     /**
      * "CAUGHT, it falls, too, behind these LOTS." By SEED 12 lots 0 of 3 (STEP in TENTH 5), 11 of 16,
      * one for the BANG ahead of the RUNG at which it is CAUGHT; then 1 of 3 (TENTH 6), 9 of 16.

@@ -144,6 +144,16 @@ public final class StepEdgesTest {
         Asked.with("410", "108").having(0, 0, 1, 1, 2, 1, 10, 1).due("climb(5)", 10).due("climb(0)", -1);
     }
 
+    /** The one RUNG is in TENTH 5, at 10: without LEE the CUTTER stands 20 there, with it as high as the RUNG. */
+    static void itCatchesByLee() {
+        Asked x = Asked.with("410", "120").having(0, 9, 1, 1, 2, 1, 10, 5);
+        x.due("climb(0)", -1).due("bangs(0)", 0).due("safe(0, 0)", 0);
+        x.lee(5, 1).due("climb(0)", 5).due("bangs(0)", 1);
+        x.lee(0, 5).due("climb(0)", -1).due("bangs(0)", 0);
+        x.lee(0, 6).due("climb(0)", 5).due("bangs(0)", 1);
+        x.lee(6, 99).due("climb(0)", -1);
+    }
+
     // ---- promise 20: bangs
 
     /** ROLL 199 leans IN in 25 to 74 and 322 .. 371. */
@@ -269,6 +279,15 @@ public final class StepEdgesTest {
         Asked.fresh().having(0, 0).due("best(399, 100)", 399).due("best(399, 1)", 399).due("best(381, 100)", 381)
             .due("best(382, 100)", 382);
         Asked.with("410").having(0, 20, 1, 1, 2, 30, 10, 1).due("best(390, 100)", 395).due("best(396, 100)", 396);
+    }
+
+    /** "From one on": TENTH 0 is STILL, by 15 of 16; behind it TENTH 5, TOPPED, is the best one, by 14 of 16. */
+    static void aBetterStepAheadIsNotLookedAt() {
+        Asked x = Asked.with("410").having(1, 1, 2, 30, 3, 99, 4, 1, 7, 0);
+        safeDue(x, 0, 15, 16);
+        safeDue(x, 4, 13, 16);
+        safeDue(x, 5, 7, 8);
+        x.due("best(0, 100)", 0).due("best(1, 100)", 5).due("best(4, 2)", 5).due("call(1, 100)", 4).due("call(4, 2)", 4);
     }
 
     /** "Of like ones the first"; of STEPS without a chance, too. */
@@ -401,6 +420,14 @@ public final class StepEdgesTest {
         Asked.with("410").having(3, 99).due("ladder(0, 6)", 20);
         Asked.with("410").having(3, 20).due("ladder(0, 6)", 20);
         Asked.with("410").having(3, 19).due("ladder(0, 6)", 16);
+    }
+
+    /** In LEE the CUTTER stands 10 in TENTH 5, not 20, and 16 in TENTHS 4 and 6. */
+    static void aLadderByLee() {
+        Asked.with("410").due("ladder(5, 1)", 20).due("ladder(5, 2)", 20).due("ladder(4, 3)", 20);
+        Asked.with("410").lee(5, 1).due("ladder(5, 1)", 10).due("ladder(5, 2)", 10).due("ladder(4, 3)", 10)
+            .due("ladder(4, 1)", 16).due("ladder(6, 1)", 16);
+        Asked.with("410").lee(5, 1).having(3, 6).due("ladder(5, 2)", 16).due("ladder(4, 3)", 16);
     }
 
     /** "Of like ones the least." */

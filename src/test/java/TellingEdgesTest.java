@@ -128,6 +128,7 @@ public final class TellingEdgesTest {
         dueByCalls(Asked.with("410", "312"));
         dueByCalls(Asked.with("410;310;205;999;002;120", "112").lee(30, 60).having(0, 120, 3, 50, 10, 1));
         dueByCalls(Asked.with("410;", "31"));
+        dueByCalls(Asked.with("410;307", "308").due("leans(37)", 2).due("leans(200)", 1).due("leans(399)", 1));
         Asked seen = Asked.with("410;307");
         seen.due("seen(7, 12)", 1);
         dueByCalls(seen);
